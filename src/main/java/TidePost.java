@@ -302,7 +302,7 @@ public final class TidePost {
                 open++;
             }
         }
-        return open == 0 ? 0 : sum / open;
+        return open == 0 ? 0.0 : sum / open;
     }
 
     // ---- what would be (nothing is changed)

@@ -6,6 +6,7 @@ public final class TransportTest {
         give();
         close();
         read();
+        byeNeedsNoRoom();
         passWrong();
         wrongConnections();
         begin();
@@ -168,6 +169,20 @@ public final class TransportTest {
         int onTheWay = x.underWay();
         Check.is("9: read(0, 1)", 5, () -> x.read(0, 1));
         Check.is("9: no answer, the room is 0 still", onTheWay, x::underWay);
+    }
+
+    /** BYE is sent though there is no room; a piece would have to wait. */
+    private static void byeNeedsNoRoom() {
+        TidePost x = pair(1);
+        x.call(0, 1, 2);
+        x.give(0, 1, 2);
+        x.close(0);
+        x.pass(6);
+        Check.is("26, 29: 1 is sent, BYE as well", "1 2 1 3 16 128 1 0 -1", () -> caller(x, 0));
+        x.pass(2);
+        Check.is("23, 39: closed, and READ + BUFFER is no bound", "2 3 2", () -> x.stateOf(0) + " " + x.wanted(0) + " "
+                + x.readable(0));
+        Check.is("20: lost()", 0, x::lost);
     }
 
     private static void passWrong() {
