@@ -5,8 +5,8 @@ public final class ModelTest {
     private static final String[] OF_CONNECTION = {"stateOf", "given", "base", "next", "window", "threshold", "room", "like",
         "recover", "round", "swing", "timeout", "timer", "measured", "tries", "sentAgain", "wanted", "readable", "hasRead"};
     /**
-     * What the drawn runs must have led to. NetworkTest and TransportTest lead to a packet that took off 16 times, and to
-     * a window of 256; a TIMEOUT below 3 no run leads to, as ROUND is 16 at least, and SWING 3.
+     * What the drawn runs must have led to. BoundaryNetworkTest and TransportTest lead to a packet that took off 16 times,
+     * and to a window of 256; a TIMEOUT below 3 no run leads to, as ROUND is 16 at least, and SWING 3.
      */
     private static final String[] TO_BE_SEEN = {"answer at state 2", "answer at state 3", "answer to nothing", "broken, was 0",
         "broken, was 1", "bye held", "bye sent into no room", "came twice", "closed", "greatest timeout", "grows by 1",

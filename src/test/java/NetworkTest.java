@@ -11,18 +11,7 @@ public final class NetworkTest {
         routes();
         ways();
         underWayAndLost();
-        order();
-        hops();
-        reachesTheGoalByTheSixteenthHop();
         Check.end();
-    }
-
-    private static TidePost withNodes(int many) {
-        TidePost x = new TidePost();
-        for (int i = 0; i < many; i++) {
-            x.addNode();
-        }
-        return x;
     }
 
     private static void newObject() {
@@ -55,7 +44,7 @@ public final class NetworkTest {
     }
 
     private static void addLink() {
-        TidePost x = withNodes(8);
+        TidePost x = Scenes.nodes(8);
         int made = 0;
         for (int a = 0; a < 8 && made < 12; a++) {
             for (int b = a + 1; b < 8 && made < 12; b++) {
@@ -78,7 +67,7 @@ public final class NetworkTest {
     }
 
     private static void addLinkWrong() {
-        TidePost x = withNodes(3);
+        TidePost x = Scenes.nodes(3);
         Check.index("3: first -1", () -> x.addLink(-1, 1, 0, 0));
         Check.index("3: first 3", () -> x.addLink(3, 1, 1, 1));
         Check.index("3: second -1", () -> x.addLink(1, -1, 1, 1));
@@ -101,7 +90,7 @@ public final class NetworkTest {
     }
 
     private static void turn() {
-        TidePost x = withNodes(2);
+        TidePost x = Scenes.nodes(2);
         x.addLink(0, 1, 5, 20);
         x.call(0, 1, 1);
         x.call(0, 1, 1);
@@ -131,7 +120,7 @@ public final class NetworkTest {
     }
 
     private static void lose() {
-        TidePost x = withNodes(2);
+        TidePost x = Scenes.nodes(2);
         x.addLink(0, 1, 1, 20);
         x.addLink(0, x.addNode(), 1, 20);
         Check.is("5: lose(0, 0, 9)", 0, () -> x.lose(0, 0, 9));
@@ -160,7 +149,7 @@ public final class NetworkTest {
     }
 
     private static void loseWrong() {
-        TidePost x = withNodes(2);
+        TidePost x = Scenes.nodes(2);
         x.addLink(0, 1, 1, 20);
         Check.index("5: link 1", () -> x.lose(1, 0, 10));
         Check.index("5: link -1", () -> x.lose(-1, 0, 1));
@@ -172,7 +161,7 @@ public final class NetworkTest {
     }
 
     private static void routes() {
-        TidePost x = withNodes(6);
+        TidePost x = Scenes.nodes(6);
         x.addLink(0, 1, 9, 1); // 0
         x.addLink(2, 0, 1, 1); // 1
         x.addLink(1, 2, 3, 1); // 2
@@ -209,7 +198,7 @@ public final class NetworkTest {
     }
 
     private static void ways() {
-        TidePost x = withNodes(2);
+        TidePost x = Scenes.nodes(2);
         x.addLink(1, 0, 3, 2);
         x.call(1, 0, 1);
         x.call(1, 0, 1);
@@ -245,7 +234,7 @@ public final class NetworkTest {
     }
 
     private static void underWayAndLost() {
-        TidePost x = withNodes(3);
+        TidePost x = Scenes.nodes(3);
         x.addLink(0, 1, 2, 20);
         x.call(0, 1, 1);
         x.call(1, 0, 1);
@@ -260,62 +249,5 @@ public final class NetworkTest {
         x.pass(7);
         Check.is("21: none after the answers", 0, x::underWay);
         Check.is("20: the same", 1, x::lost);
-    }
-
-    /** Of the packets that arrive at one tick that of the smaller link comes first, of one link that of way 0. */
-    private static void order() {
-        TidePost x = withNodes(4);
-        x.addLink(0, 2, 1, 20);
-        x.addLink(2, 1, 1, 20);
-        x.addLink(2, 3, 1, 1);
-        x.call(1, 3, 1);
-        x.call(0, 3, 1);
-        x.pass(2);
-        // the one from the node 0 takes the only place of the queue to the node 3
-        Check.is("10: the second one is lost", 1, x::lost);
-        x.pass(2);
-        Check.is("10: the first one is answered", 1, () -> x.flown(2, 1));
-        x.pass(1);
-        Check.is("10: and its caller open", "0 1", () -> x.stateOf(0) + " " + x.stateOf(1));
-    }
-
-    /**
-     * Sends HELLO to and fro between two nodes: whenever it flies to one, that one's way to the goal goes down. HELLO that
-     * is sent again at the tick 12 takes the way that is open then, and is lost as it goes down.
-     */
-    private static TidePost bounced(int ticks) {
-        TidePost x = withNodes(3);
-        x.addLink(0, 1, 1, 20);
-        x.addLink(0, 2, 1, 20);
-        x.addLink(1, 2, 1, 20);
-        x.turn(1);
-        x.call(0, 2, 1);
-        for (int i = 0; i < ticks; i++) {
-            x.pass(1);
-            x.turn(1);
-            x.turn(2);
-        }
-        return x;
-    }
-
-    private static void hops() {
-        TidePost x = bounced(15);
-        x.pass(1);
-        Check.is("20: took off 16 times", 1, x::lost);
-        x.turn(1);
-        x.turn(2);
-        x.pass(1);
-        Check.is("20: lost as it is to take off once more", 2, x::lost);
-        Check.is("19: flown towards the goal", "1 0", () -> x.flown(1, 0) + " " + x.flown(2, 0));
-    }
-
-    private static void reachesTheGoalByTheSixteenthHop() {
-        TidePost x = bounced(14);
-        x.pass(2);
-        // it took off for the 15th time at the tick 15, and found the way to the goal open at the tick 16
-        Check.is("19: its 16th flight", 1, () -> x.flown(2, 0));
-        x.pass(1);
-        Check.is("20: nothing more is lost", 1, x::lost);
-        Check.is("19: it is answered", 1, () -> x.flown(2, 1));
     }
 }
