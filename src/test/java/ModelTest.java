@@ -206,12 +206,12 @@ public final class ModelTest {
         } else if (drawn == OF_CONNECTION.length + 1) {
             same("meanWindow()", post::meanWindow, model::meanWindow);
         } else {
-            int number = draw(40) == 0 ? draw(2) * 500 - 1 : Math.max(0, baseOf(c)) + draw(8);
+            int number = draw(40) == 0 ? draw(2) * 500 - 1 : wantedOf(c) + draw(10) - 4;
             same("holds(" + c + ", " + number + ")", () -> post.holds(c, number), () -> model.holds(c, number));
         }
     }
 
-    private int baseOf(int connection) {
+    private int wantedOf(int connection) {
         return connection >= 0 && connection < model.connections() ? model.asked("wanted", connection) : 0;
     }
 
