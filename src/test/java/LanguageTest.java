@@ -4,12 +4,21 @@ import java.lang.reflect.Method;
 import java.lang.reflect.Modifier;
 import java.nio.file.Files;
 import java.nio.file.Path;
+import java.util.ArrayList;
+import java.util.List;
+import java.util.regex.Matcher;
+import java.util.regex.Pattern;
 
 /** What can be looked at of LANGUAGE.md by simple means; the first argument is the class's file. */
 public final class LanguageTest {
     private static final String[] NOT_TO_BE_READ = {"package ", "import ", "->", "::", "try", "catch", "finally", "synchronized",
         "assert", "static {", "instanceof", "getMessage", "equals(", "hashCode", "toString", "Exact(", "Object", "System.out",
         "nanoTime", "currentTimeMillis", "Random", "Thread", "while (true)", "for (;;)", "@"};
+    /** Of what the rules 4 and 6 list: what the class uses. */
+    private static final List<String> OF_THE_LIBRARY = List.of("Math.min", "Math.max", "Math.abs", "Math.floorMod",
+        "System.arraycopy");
+    private static final List<String> THROWN = List.of("IllegalStateException", "IllegalArgumentException",
+        "IndexOutOfBoundsException");
     private static final int LINES_OF_A_METHOD = 60;
     private static final int CLASSES = 12;
     private static final int FIELDS = 20;
@@ -23,6 +32,7 @@ public final class LanguageTest {
         }
         Check.is("ASCII", true, () -> text.chars().allMatch(c -> c == '\n' || c >= ' ' && c < 127));
         Check.is("texts are not joined by +", false, () -> code.matches("(?s).*(\"\\s*\\+|\\+\\s*\").*"));
+        libraryAndExceptions(code);
         Check.is("methods are short", true, () -> longestBlock(text) <= LINES_OF_A_METHOD);
         sizes(TidePost.class);
         Check.is("few classes", true, () -> TidePost.class.getDeclaredClasses().length + 1 <= CLASSES);
@@ -33,6 +43,24 @@ public final class LanguageTest {
         }
         Check.is("calls make no objects", 0L, LanguageTest::bytesOfCalls);
         Check.end();
+    }
+
+    private static void libraryAndExceptions(String code) {
+        List<String> own = new ArrayList<>();
+        for (Class<?> inside : TidePost.class.getDeclaredClasses()) {
+            own.add(inside.getSimpleName());
+        }
+        Matcher name = Pattern.compile("\\b([A-Z]\\w*)\\.(\\w+)").matcher(code);
+        while (name.find()) {
+            String used = name.group();
+            Check.is("own, or of the library's list: " + used, true,
+                    () -> own.contains(used.split("\\.")[0]) || OF_THE_LIBRARY.contains(used));
+        }
+        Matcher thrown = Pattern.compile("\\bthrow (?:new (\\w+)\\(\"\"\\);)?").matcher(code);
+        while (thrown.find()) {
+            String exception = String.valueOf(thrown.group(1));
+            Check.is("thrown with a written text: " + exception, true, () -> THROWN.contains(exception));
+        }
     }
 
     private static void sizes(Class<?> looked) {
