@@ -10,6 +10,7 @@ public final class SentenceTest {
         grownFarRoundByRound();
         queuedPacketStays();
         eachPacketHasItsRoute();
+        answerFliesAsOftenAsAny();
         timerAheadOfSending();
         helloDoesNothingElse();
         cameBeforeIsNotHeld();
@@ -126,6 +127,42 @@ public final class SentenceTest {
         Check.is("23: calling", 0, () -> x.stateOf(0));
         x.pass(1);
         Check.is("23: open", 1, () -> x.stateOf(0));
+    }
+
+    /**
+     * Term 1: "if it has flown over 16 links already": an ANSWER, whose flights begin with its own first one, at 10. It is
+     * sent to and fro between the nodes 0 and 1, as the link 2 is up whenever it is at the node 0, and down at the node 1.
+     */
+    private static void answerFliesAsOftenAsAny() {
+        TidePost x = answerToAndFro();
+        x.pass(1);
+        Check.is("19: from the node 1 to its goal, as the sixteenth time", "15 1", () -> x.flown(0, 0) + x.flown(0, 1) + " "
+                + x.flying(2, 0));
+        x.pass(1);
+        Check.is("23, 20: it comes; the HELLO of 12 was lost", "1 1", () -> x.stateOf(0) + " " + x.lost());
+        TidePost y = answerToAndFro();
+        y.turn(2);
+        y.pass(1);
+        Check.is("19, 20: to the node 0, as the sixteenth time", "16 1", () -> y.flown(0, 0) + y.flown(0, 1) + " " + y.lost());
+        y.pass(1);
+        Check.is("15, 20: there is a route, but it is lost", "9 2", () -> y.distance(0, 2) + " " + y.lost());
+        Check.is("23, 21: none is under way", "0 0", () -> y.stateOf(0) + " " + y.underWay());
+    }
+
+    /** At the clock 24, with 15 flights of the ANSWER. */
+    private static TidePost answerToAndFro() {
+        TidePost x = Scenes.nodes(3);
+        x.addLink(0, 1, 1, 20);
+        x.addLink(0, 2, 9, 20);
+        x.addLink(1, 2, 1, 20);
+        x.turn(2);
+        x.call(2, 0, 1);
+        x.pass(9);
+        for (int clock = 10; clock <= 24; clock++) {
+            x.turn(2);
+            x.pass(1);
+        }
+        return x;
     }
 
     /** Term 4, (b) ahead of (c): at 37 the timer of 16 runs out, W becomes 8, and so 17, given at 36, is not sent. */
